@@ -44,6 +44,20 @@ public final class CountTest {
             mark 2 = yes
             missing 3 = 2             # a claim with a MARK still tells
             """);
+        Script.hold("one run is enough", """
+            step 0 2501 = 1
+            step 0 3501 = 2
+            step 0 7530 = 3
+            step 0 8000 = 4
+            count 20 = 1
+            missing 0 = 5
+            step 1 2499 = 1
+            step 1 3499 = 2
+            step 1 1530 = 3
+            missing 1 = 4
+            change 1 2 1529 = yes
+            missing 1 = 6
+            """);
         Script.hold("each kind counts for its own bit", """
             step 1 499 = 1
             missing 1 = 6

@@ -41,6 +41,16 @@ public final class MendTest {
             mend 0 0 = -1
             mend 0 1 = 1
             """);
+        Script.hold("between, where the first or the last run stands alone", """
+            step 0 2501 = 1
+            step 0 3501 = 2
+            claim 0 0 5 6 = 0
+            mend 0 0 = 0
+            mend 0 1 = 30
+            step 0 4499 = 3
+            mend 0 0 = -30
+            mend 0 1 = 0
+            """);
     }
 
     private static void multiple() {
@@ -65,6 +75,18 @@ public final class MendTest {
             step 0 4600 = 2
             step 0 4600 = 3
             mend 0 0 = 1000
+            """);
+        Script.hold("multiple, where the first run stands alone", """
+            step 0 2501 = 1
+            step 0 3501 = 2
+            step 0 5501 = 3
+            step 0 4506 = 4
+            step 0 1506 = 5           # 6, then 12 always
+            claim 0 3 5 0 = 0
+            mend 0 0 = 6
+            change 0 3 4502 = yes
+            change 0 4 1502 = yes
+            mend 0 0 = 2
             """);
         Script.hold("multiple, of a prime above 1000", """
             step 0 999 = 1
