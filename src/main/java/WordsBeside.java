@@ -138,7 +138,7 @@ public final class WordsBeside {
         }
         switch (what) {
             case 0:
-                return standing(asked);
+                return standing(asked, present());
             case 1:
                 return asked.function;
             case 2:
@@ -150,7 +150,7 @@ public final class WordsBeside {
             case 5:
                 return asked.harmIn(present());
             case 6:
-                return standing(asked) == STALE ? asked.lastHeld + 1 : NONE;
+                return standing(asked, present()) == STALE ? asked.lastHeld + 1 : NONE;
             case 7:
                 return asked.marked ? 1 : 0;
             default:
@@ -328,8 +328,8 @@ public final class WordsBeside {
         return claim >= 0 && claim < came && claim < claims.length ? claims[claim] : null;
     }
 
-    private int standing(Claim asked) {
-        if (asked.isHeldIn(present())) {
+    private static int standing(Claim asked, World world) {
+        if (asked.isHeldIn(world)) {
             return HELD;
         }
         return asked.lastHeld == NONE ? BROKEN : STALE;
@@ -397,10 +397,11 @@ public final class WordsBeside {
     }
 
     private int howManyStand(int wanted) {
+        World world = present();
         int many = 0;
         for (int c = 0; c < came; c++) {
             Claim each = claims[c];
-            if (each != null && standing(each) == wanted) {
+            if (each != null && standing(each, world) == wanted) {
                 many++;
             }
         }
@@ -463,17 +464,16 @@ public final class WordsBeside {
         }
 
         void put(int function, int k, int step) {
-            if (hasPlace(function, k)) {
+            if (isFunction(function) && k >= 0 && k < MOST_STEPS) {
                 steps[function * MOST_STEPS + k] = step;
             }
         }
 
         private int at(int function, int k) {
-            return hasPlace(function, k) ? steps[function * MOST_STEPS + k] : NONE;
-        }
-
-        private boolean hasPlace(int function, int k) {
-            return isFunction(function) && k >= 0 && k < MOST_STEPS;
+            if (!isFunction(function) || k < 0 || k >= MOST_STEPS) {
+                return NONE;
+            }
+            return steps[function * MOST_STEPS + k];
         }
 
         /** Whether a step may be at place k, where the one that is there now would be gone. */
@@ -512,7 +512,8 @@ public final class WordsBeside {
         private int goThrough(int function, int run, World world) {
             int register = 0;
             boolean leftOut = false;
-            for (int k = 0; k < length(function); k++) {
+            int length = length(function);
+            for (int k = 0; k < length; k++) {
                 int step = at(function, k);
                 if (leftOut) {
                     leftOut = false;
@@ -585,7 +586,10 @@ public final class WordsBeside {
 
         /** NO_NUMBER if the run is REFUSED, or if there is none such. */
         int given(int function, int run) {
-            return isFunction(function) && isRun(run) ? gives[function * RUNS + run] : NO_NUMBER;
+            if (function < 0 || function >= FUNCTIONS || run < 0 || run >= RUNS) {
+                return NO_NUMBER;
+            }
+            return gives[function * RUNS + run];
         }
 
         int refusals(int function) {
