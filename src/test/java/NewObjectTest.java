@@ -31,8 +31,8 @@ public final class NewObjectTest {
     }
 
     private static void everyRunGivesNothing() {
-        WordsBeside fresh = new WordsBeside();
         for (int function = 0; function < 6; function++) {
+            WordsBeside fresh = new WordsBeside();
             for (int run = 0; run < 256; run++) {
                 Script.due("a new run", fresh.run(function, run / 16, run % 16), 0);
                 Script.due("a new state 0", fresh.was(0, function, run / 16, run % 16), 0);

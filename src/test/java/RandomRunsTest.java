@@ -6,6 +6,7 @@ public final class RandomRunsTest {
 
     private static final int RUNS = 60;
     private static final int CALLS = 512;
+    private static final int CALLS_BEYOND = 300;
     private static final int[] FAR = {-1, Integer.MIN_VALUE, Integer.MAX_VALUE, 1000001, -1000001, 256, 40, 17, 6};
 
     private final Random random;
@@ -13,6 +14,8 @@ public final class RandomRunsTest {
     private final Model model = new Model();
     private final int seed;
     private int wrong = 0;
+    /** What later calls answer is free, but they must not throw either. */
+    private boolean looked = true;
 
     private RandomRunsTest(int seed) {
         this.seed = seed;
@@ -30,7 +33,8 @@ public final class RandomRunsTest {
         // A run with few functions has claims, states and steps that meet more often.
         int functions = 1 + random.nextInt(6);
         int changing = 2 + random.nextInt(10);
-        for (int call = 0; call < CALLS && wrong < 3; call++) {
+        for (int call = 0; call < CALLS + CALLS_BEYOND && wrong < 3; call++) {
+            looked = call < CALLS;
             int f = anything(6 - functions, 6);
             if (random.nextInt(20) < changing) {
                 changeSomething(f);
@@ -116,7 +120,7 @@ public final class RandomRunsTest {
 
     private void both(String name, int... arguments) {
         int got = Script.call(real, name, arguments);
-        int want = Script.call(model, name, arguments);
+        int want = looked ? Script.call(model, name, arguments) : got;
         if (got != want) {
             wrong++;
         }
